@@ -18,6 +18,10 @@ public final class KeptItems {
     private static final int PLACE_UNIT = 2048;
     private static final int LENGTH_UNIT = 8;
     private static final String SIGNS = "=;+-*(){},";
+    private static final char NAME_MARK = 'a';
+    private static final char NUMBER_MARK = '0';
+    private static final char STRING_MARK = '"';
+    private static final char BAD_MARK = '?';
 
     private final char[] row;
     private int rowSize;
@@ -194,6 +198,8 @@ public final class KeptItems {
         int size;
         // Held as token() answers them; so they are ordered by their places.
         final int[] found = new int[MOST_CHARS];
+        // All that reading has to know of a token: a sign is its own mark, any other kind has one.
+        final char[] marks = new char[MOST_CHARS];
         int count;
 
         /** Takes over another text, with the row in place of a stretch of it. */
@@ -210,6 +216,7 @@ public final class KeptItems {
             int place = passBlanks(0);
             while (place < size && count < MOST_CHARS) {
                 found[count] = tokenFrom(place);
+                marks[count] = markOf(found[count] % LENGTH_UNIT, chars[place]);
                 place = passBlanks(placeBehind(count));
                 count++;
             }
@@ -242,6 +249,21 @@ public final class KeptItems {
                 return packed(place, behindRun(place, false), NUMBER);
             }
             return packed(place, place + 1, SIGNS.indexOf(c) >= 0 ? SIGN : BAD);
+        }
+
+        private static char markOf(int kind, char first) {
+            switch (kind) {
+                case NAME:
+                    return NAME_MARK;
+                case NUMBER:
+                    return NUMBER_MARK;
+                case STRING:
+                    return STRING_MARK;
+                case SIGN:
+                    return first;
+                default:
+                    return BAD_MARK;
+            }
         }
 
         private int quotedFrom(int place) {
@@ -285,14 +307,6 @@ public final class KeptItems {
             return placeOf(k) + lengthOf(k);
         }
 
-        boolean isKind(int k, int kind) {
-            return k < count && found[k] % LENGTH_UNIT == kind;
-        }
-
-        boolean isSign(int k, char sign) {
-            return isKind(k, SIGN) && chars[placeOf(k)] == sign;
-        }
-
         /** What token k has to be after the edit in order to stay; NONE if the edit touches it. */
         int movedToken(int k, int place, int gone, int rowSize) {
             if (placeBehind(k) <= place) {
@@ -305,12 +319,14 @@ public final class KeptItems {
         }
 
         boolean areSame(int k, int other) {
-            if (found[k] % PLACE_UNIT != found[other] % PLACE_UNIT) {
+            int lengthAndKind = found[k] % PLACE_UNIT;
+            if (lengthAndKind != found[other] % PLACE_UNIT) {
                 return false;
             }
-            int length = lengthOf(k);
-            for (int i = 0; i < length; i++) {
-                if (chars[placeOf(k) + i] != chars[placeOf(other) + i]) {
+            int place = found[k] / PLACE_UNIT;
+            int otherPlace = found[other] / PLACE_UNIT;
+            for (int i = 0; i < lengthAndKind / LENGTH_UNIT; i++) {
+                if (chars[place + i] != chars[otherPlace + i]) {
                     return false;
                 }
             }
@@ -319,9 +335,10 @@ public final class KeptItems {
 
         int digitsValue(int k) {
             int sum = 0;
-            int behind = placeBehind(k);
-            for (int i = placeOf(k); i < behind; i++) {
-                sum = 10 * sum + (chars[i] - '0');
+            int place = placeOf(k);
+            int length = lengthOf(k);
+            for (int i = 0; i < length; i++) {
+                sum = 10 * sum + (chars[place + i] - '0');
             }
             return sum;
         }
@@ -329,7 +346,7 @@ public final class KeptItems {
 
     /** Items in the order in which they begin, each known by its first and its last token. */
     private static final class Tree {
-        // Each item that has begun has a first token of its own: as many as there are characters do.
+        // Every item that has begun has a first token of its own, so there are never more.
         final int[] firsts = new int[MOST_CHARS];
         final int[] lasts = new int[MOST_CHARS];
         final int[] levels = new int[MOST_CHARS];
@@ -361,8 +378,8 @@ public final class KeptItems {
     }
 
     /**
-     * A source and the tree that reading makes of it. Once reading has stopped no sign and no kind is
-     * seen any more, so that every method below comes to its end without reading on.
+     * A source and the tree that reading makes of it. Once reading has stopped no mark is seen any more,
+     * so that every method below comes to its end without reading on.
      */
     private static final class Reading {
         final Source source = new Source();
@@ -391,38 +408,35 @@ public final class KeptItems {
             return next < source.count ? source.placeOf(next) : source.size;
         }
 
-        private boolean sees(char sign) {
-            return !stopped && source.isSign(next, sign);
+        private boolean sees(char mark) {
+            return !stopped && next < source.count && source.marks[next] == mark;
         }
 
-        private boolean takes(char sign) {
-            boolean seen = sees(sign);
+        private boolean takes(char mark) {
+            boolean seen = sees(mark);
             if (seen) {
                 next++;
             }
             return seen;
         }
 
-        private boolean takesKind(int kind) {
-            boolean seen = !stopped && source.isKind(next, kind);
-            if (seen) {
+        private void needs(char mark) {
+            if (sees(mark)) {
                 next++;
-            }
-            return seen;
-        }
-
-        private void needs(char sign) {
-            if (!takes(sign)) {
+            } else {
                 stopped = true;
             }
         }
 
-        /** Takes a sign whose own part lies one deeper, and stops where that is too deep. */
+        /** Takes a sign whose own part is one deeper, or stops before it where that is too deep. */
         private boolean opens(char sign, int depth) {
-            if (depth >= MOST_DEPTH && sees(sign)) {
+            boolean seen = sees(sign);
+            if (seen && depth >= MOST_DEPTH) {
                 stopped = true;
+            } else if (seen) {
+                next++;
             }
-            return takes(sign);
+            return seen && !stopped;
         }
 
         // Only {} are round an item, so its depth is its level too.
@@ -432,10 +446,17 @@ public final class KeptItems {
                 return;
             }
             int k = tree.count;
+            int first = next;
             tree.count++;
-            tree.firsts[k] = next;
+            tree.firsts[k] = first;
             tree.levels[k] = depth;
-            tree.values[k] = sees('{') ? readBlock(depth) : readStatement(depth);
+            if (sees('{')) {
+                tree.values[k] = readBlock(depth);
+            } else {
+                needs(NAME_MARK);
+                tree.values[k] = takes('=') ? readSum(depth) : readCall(first, depth);
+                needs(';');
+            }
             tree.lasts[k] = next - 1;
         }
 
@@ -451,57 +472,44 @@ public final class KeptItems {
             return inside;
         }
 
-        private int readStatement(int depth) {
-            int result = 0;
-            int name = next;
-            if (!takesKind(NAME)) {
-                stopped = true;
-            } else if (takes('=')) {
-                result = readSum(depth);
-            } else {
-                result = readCall(name, depth);
-            }
-            needs(';');
-            return result;
-        }
-
+        /** Reads a sum with its terms; a term that is taken away is held with its sign turned. */
         private int readSum(int depth) {
-            int result = readTerm(depth);
-            for (int n = 0; n < MOST_CHARS && (sees('+') || sees('-')); n++) {
-                boolean less = sees('-');
-                next++;
-                int more = readTerm(depth);
-                result = less ? result - more : result + more;
+            int sum = 0;
+            int term = readFactor(depth);
+            for (int n = 0; n < MOST_CHARS && !stopped; n++) {
+                if (takes('*')) {
+                    term *= readFactor(depth);
+                } else if (takes('+')) {
+                    sum += term;
+                    term = readFactor(depth);
+                } else if (takes('-')) {
+                    sum += term;
+                    term = 0 - readFactor(depth);
+                } else {
+                    break;
+                }
             }
-            return result;
-        }
-
-        private int readTerm(int depth) {
-            int result = readFactor(depth);
-            for (int n = 0; n < MOST_CHARS && takes('*'); n++) {
-                result *= readFactor(depth);
-            }
-            return result;
+            return sum + term;
         }
 
         private int readFactor(int depth) {
             int token = next;
-            if (takesKind(NUMBER)) {
+            if (takes(NUMBER_MARK)) {
                 return source.digitsValue(token);
             }
-            if (takesKind(STRING)) {
+            if (takes(STRING_MARK)) {
                 return source.lengthOf(token) - 2;
             }
-            if (takesKind(NAME)) {
+            if (takes(NAME_MARK)) {
                 return sees('(') ? readCall(token, depth) : namedValue(token);
             }
             if (opens('-', depth)) {
                 return 0 - readFactor(depth + 1);
             }
             if (opens('(', depth)) {
-                int result = readSum(depth + 1);
+                int inside = readSum(depth + 1);
                 needs(')');
-                return result;
+                return inside;
             }
             stopped = true;
             return 0;
@@ -529,7 +537,8 @@ public final class KeptItems {
             // The item in which the name stands is the last that has begun.
             for (int k = tree.count - 2; k >= 0; k--) {
                 int first = tree.firsts[k];
-                if (source.isSign(first + 1, '=') && source.areSame(first, name)) {
+                boolean gives = first + 1 < source.count && source.marks[first + 1] == '=';
+                if (gives && source.areSame(first, name)) {
                     return tree.values[k];
                 }
             }

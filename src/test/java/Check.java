@@ -2,6 +2,7 @@
 final class Check {
     static final long INDEX = Long.MIN_VALUE;
     static final long STATE = Long.MIN_VALUE + 1;
+    private static final long OTHER = Long.MIN_VALUE + 2;
 
     private static int wrong = 0;
     private static int looked = 0;
@@ -23,7 +24,13 @@ final class Check {
 
     private static String said(long answer) {
         return answer == INDEX ? "throws.IndexOutOfBoundsException"
-            : answer == STATE ? "throws.IllegalStateException" : Long.toString(answer);
+            : answer == STATE ? "throws.IllegalStateException"
+            : answer == OTHER ? "throws by itself" : Long.toString(answer);
+    }
+
+    /** A class below IndexOutOfBoundsException is what an array or a text throws by itself. */
+    private static long thrown(IndexOutOfBoundsException e) {
+        return e.getClass() == IndexOutOfBoundsException.class ? INDEX : OTHER;
     }
 
     static void finish(String test) {
@@ -57,7 +64,7 @@ final class Check {
         try {
             return x.edit(at, gone);
         } catch (IndexOutOfBoundsException e) {
-            return INDEX;
+            return thrown(e);
         } catch (IllegalStateException e) {
             return STATE;
         }
@@ -67,7 +74,7 @@ final class Check {
         try {
             return x.token(k);
         } catch (IndexOutOfBoundsException e) {
-            return INDEX;
+            return thrown(e);
         }
     }
 
@@ -75,7 +82,7 @@ final class Check {
         try {
             return x.begin(k);
         } catch (IndexOutOfBoundsException e) {
-            return INDEX;
+            return thrown(e);
         }
     }
 
@@ -83,7 +90,7 @@ final class Check {
         try {
             return x.end(k);
         } catch (IndexOutOfBoundsException e) {
-            return INDEX;
+            return thrown(e);
         }
     }
 
@@ -91,7 +98,7 @@ final class Check {
         try {
             return x.value(k);
         } catch (IndexOutOfBoundsException e) {
-            return INDEX;
+            return thrown(e);
         }
     }
 

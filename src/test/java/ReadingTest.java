@@ -82,6 +82,8 @@ public final class ReadingTest {
         dueReading("a=1;{b=2;}{c=3;{}=", 17, 3);
         dueReading("  \n  ) # x", 5, 0);
         dueReading("a=1;\"b", 4, 1);
+        dueReading("a=\"x;", 2, 0);
+        dueReading("f(1,\"", 4, 0);
     }
 
     private static void textsThatEndTooEarly() {
@@ -114,6 +116,9 @@ public final class ReadingTest {
         dueReading(round("f(", 13, "1", ")") + ";", 25, 0);
         dueGood("a=" + round("f(", 12, "1", ")") + ";", 1);
         dueReading("a=" + round("f(", 13, "", ")") + ";", 27, 0);
+        dueGood(round("f(1,", 12, "1", ")") + ";", 1);
+        dueReading(round("f(1,", 13, "1", ")") + ";", 49, 0);
+        dueReading("a=" + round("f(1,2,", 13, "1", ")") + ";", 75, 0);
         dueGood(round("{", 12, "a=1-b*2;", "}"), 13);
         dueReading(round("{", 12, "a=-1;", "}"), 14, 0);
         dueReading(round("{", 12, "a=(1);", "}"), 14, 0);

@@ -109,8 +109,8 @@ public final class TextTest {
         };
         for (int[] s : stretches) {
             Check.due("edit(" + s[0] + ", " + s[1] + ")", Check.edit(x, s[0], s[1]), Check.INDEX);
+            Check.dueText("refused", x, "a=1;b=2; ");
         }
-        Check.dueText("refused", x, "a=1;b=2; ");
         Check.due("refused: kept()", x.kept(), 2);
         Check.dueNumbers("refused", x, 0, 1);
         Check.due("the row is still there", Check.edit(x, 9, 0), 4);

@@ -42,6 +42,7 @@ public final class ValuesTest {
         dueValues("a=1;b=2;a=3;c=a+b;", 1, 2, 3, 5);
         dueValues("a=1;aa=2;ab=3;b=aa+ab*a;", 1, 2, 3, 5);
         dueValues("ab=1;ba=2;c=ab;d=ba;e=b;", 1, 2, 1, 2, 0);
+        dueValues("ab=5;a=1;c=ab;b=a;ab=6;d=a;", 5, 1, 5, 1, 6, 1);
         dueValues("a=5;a(1);b=a;", 5, 32, 5);
         dueValues("f();b=f;", 1, 0);
         dueValues("{a=4;}b=a;", 1, 4, 4);
