@@ -6,16 +6,32 @@ final class Check {
 
     private static int wrong = 0;
     private static int looked = 0;
+    private static int sentences = 0;
+    private static String sentence = "";
 
     private Check() {
+    }
+
+    /** Begins the test of a sentence of the document, with its words: what is wrong is told below them. */
+    static void sentence(String words) {
+        sentence = words;
+        sentences++;
     }
 
     static void due(String call, long got, long want) {
         looked++;
         if (got != want) {
-            wrong++;
-            System.out.println(call + " answered " + said(got) + ", due is " + said(want));
+            tellWrong(call + " answered " + said(got) + ", due is " + said(want));
         }
+    }
+
+    private static void tellWrong(String words) {
+        wrong++;
+        if (!sentence.isEmpty()) {
+            System.out.println("[" + sentence + "]");
+            sentence = "";
+        }
+        System.out.println("  " + words);
     }
 
     static void due(String call, boolean got, boolean want) {
@@ -34,7 +50,7 @@ final class Check {
     }
 
     static void finish(String test) {
-        System.out.println(test + ": " + looked + " answers looked at, " + wrong + " wrong");
+        System.out.println(test + ": " + sentences + " sentences, " + looked + " answers looked at, " + wrong + " wrong");
         if (wrong > 0 || looked == 0) {
             System.exit(1);
         }
@@ -107,6 +123,44 @@ final class Check {
         for (int i = 0; i < text.length(); i++) {
             due(when + ": at(" + i + ")", x.at(i), text.charAt(i));
         }
+    }
+
+    /**
+     * Looks whether a refused call has changed an answer: the twin was made in the same way, but not asked for
+     * that call. Numbers are looked for up to a bound.
+     */
+    static void dueAsTwin(String when, KeptItems x, KeptItems twin, int numbers) {
+        String got = answers(x, numbers);
+        String want = answers(twin, numbers);
+        looked++;
+        if (!got.equals(want)) {
+            tellWrong(when + ": answers are " + got + ", due are " + want);
+        }
+    }
+
+    private static String answers(KeptItems x, int numbers) {
+        StringBuilder all = new StringBuilder();
+        int length = x.length();
+        int tokens = x.tokens();
+        int items = x.items();
+        all.append(length).append(' ').append(tokens).append(' ').append(items);
+        all.append(" fault ").append(x.fault()).append(" kept ").append(x.kept()).append(" at");
+        for (int i = -1; i <= length; i++) {
+            all.append(' ').append((int) x.at(i));
+        }
+        all.append(" token");
+        for (int k = -1; k <= tokens; k++) {
+            all.append(' ').append(said(token(x, k)));
+        }
+        for (int k = -1; k <= items; k++) {
+            all.append(" item ").append(x.number(k)).append(' ').append(x.level(k)).append(' ').append(said(begin(x, k)));
+            all.append(' ').append(said(end(x, k))).append(' ').append(said(value(x, k)));
+        }
+        all.append(" which");
+        for (int number = -1; number <= numbers; number++) {
+            all.append(' ').append(x.which(number));
+        }
+        return all.toString();
     }
 
     static void dueNumbers(String when, KeptItems x, int... numbers) {
