@@ -50,7 +50,8 @@ final class Check {
     }
 
     static void finish(String test) {
-        System.out.println(test + ": " + sentences + " sentences, " + looked + " answers looked at, " + wrong + " wrong");
+        String tested = sentences > 0 ? sentences + " sentences, " : "";
+        System.out.println(test + ": " + tested + looked + " answers looked at, " + wrong + " wrong");
         if (wrong > 0 || looked == 0) {
             System.exit(1);
         }

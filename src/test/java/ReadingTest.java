@@ -283,6 +283,7 @@ public final class ReadingTest {
         dueReading("  \n  ) # x", 5, 0);
         dueReading("a$", 1, 0);
         dueReading("a=1;$b=2;", 4, 1);
+        dueReading("a=1; # $\n $b=2;", 10, 1);
         dueReading("a=1;\"b", 4, 1);
         dueReading("f(1,\"", 4, 0);
         dueReading("a=1;)f();)", 4, 1);

@@ -7,6 +7,7 @@ public final class TokensTest {
     private static final int BAD = KeptItems.BAD;
 
     public static void main(String[] args) {
+        foundFromTheLeft();
         blanks();
         comments();
         names();
@@ -30,6 +31,15 @@ public final class TokensTest {
             Check.due(text + ": token(" + k + ")", Check.token(x, k), packed);
         }
         Check.due(text + ": token behind the last", Check.token(x, rows.length / 3), Check.INDEX);
+    }
+
+    private static void foundFromTheLeft() {
+        Check.sentence("TOKENS are found from the left");
+        // What comes first says what the quotes and # behind it are.
+        dueTokens("\"#\"a#\"b", 0, 3, STRING, 3, 1, NAME);
+        dueTokens("#\"\na\"#\"", 3, 1, NAME, 4, 3, STRING);
+        dueTokens("\"a\"b\"c\"d\"", 0, 3, STRING, 3, 1, NAME, 4, 3, STRING, 7, 1, NAME, 8, 1, BAD);
+        dueTokens("ab12\"\"=", 0, 2, NAME, 2, 2, NUMBER, 4, 2, STRING, 6, 1, SIGN);
     }
 
     private static void blanks() {

@@ -45,7 +45,8 @@ public final class ValuesTest {
 
     private static void numbers() {
         Check.sentence("NUMBER: 0, and for each digit 10 times what it was and the digit more.");
-        dueValues("a=0;b=9;c=10;d=1234567890;e=007;f=00;", 0, 9, 10, 1234567890, 7, 0);
+        dueValues("a=0;b=9;c=10;d=1234567890;", 0, 9, 10, 1234567890);
+        dueValues("a=00;b=007;c=010;d=0899;", 0, 7, 10, 899);
         dueValues("a=2147483647;b=2147483648;c=2147483649;", MAX, MIN, MIN + 1);
         dueValues("a=4294967295;b=4294967296;c=4294967297;", -1, 0, 1);
         dueValues("a=99999999999;b=18446744073709551616;c=18446744073709551617;", (int) 99999999999L, 0, 1);
