@@ -3,12 +3,14 @@ import java.util.Random;
 /** All promises: long runs of calls, made with a fixed seed, of the class and of the model side by side. */
 public final class ModelTest {
     private static final int RUNS = 1500;
+    private static final int DEEP_RUNS = 3000;
     private static final int MOST_CALLS = 512;
     private static final String[] PIECES = {
         "a=1;", "b=a;", "a=a+b*2;", "f(a,b);", "{}", "{a=b;}", "ab=\"x\";", "c=-(a-1);", "g();", "d=f(g(),1)-ab;",
         "{{b=3;}}", "{", "}", "(", ")", "-", "+1", "*b", ",2", "=", ";", "a", "bb", "12", "\"", "#", "\n", " ",
         "\"q\"", "$", "# c\n", "((", "))", "--", "{{{{", "}}}}", "-----", "((((((", "99999999999",
     };
+    private static final String[] OPENINGS = {"-", "(", "g(", "1-", "-(", "(1)*-"};
 
     private final Random random;
     private final KeptItems x = new KeptItems();
@@ -24,6 +26,9 @@ public final class ModelTest {
         for (int run = 0; run < RUNS; run++) {
             new ModelTest(run).run();
         }
+        for (int run = 0; run < DEEP_RUNS; run++) {
+            new ModelTest(run).runDeep();
+        }
         Check.finish("ModelTest");
     }
 
@@ -38,6 +43,37 @@ public final class ModelTest {
         }
     }
 
+    /** Runs as above hardly ever come near the greatest depth. */
+    private void runDeep() {
+        String text = deepText();
+        for (int from = 0; from < text.length(); from += 40) {
+            type(text.substring(from, Math.min(from + 40, text.length())));
+            edit(from, 0);
+        }
+        look();
+    }
+
+    /** Items in some {}, the last of them with a factor so deep that all in all it is about 12. */
+    private String deepText() {
+        int blocks = random.nextInt(random.nextInt(4) == 0 ? 14 : 4);
+        StringBuilder text = new StringBuilder();
+        for (int n = 0; n < blocks; n++) {
+            text.append(random.nextInt(4) == 0 ? "a=-1;{" : "{");
+        }
+        StringBuilder closing = new StringBuilder(random.nextBoolean() ? ";" : ");");
+        text.append(closing.length() == 1 ? "b=" : "f(");
+        int deep = 10 + random.nextInt(5);
+        for (int n = blocks; n < deep; n++) {
+            String opening = OPENINGS[random.nextInt(OPENINGS.length)];
+            text.append(opening);
+            if (opening.endsWith("(")) {
+                closing.insert(0, random.nextInt(5) == 0 ? ")*-(3)" : ")");
+            }
+        }
+        text.append('2').append(closing).append("}".repeat(blocks)).append("c=b;");
+        return text.substring(0, Math.min(160, text.length()));
+    }
+
     private void due(String call, long got, long want) {
         calls++;
         Check.due(got == want ? call : told + call, got, want);
@@ -48,10 +84,7 @@ public final class ModelTest {
         for (int n = 0; n < pieces; n++) {
             // The first eleven are whole items: with more of them there is more to keep.
             String piece = PIECES[random.nextInt(random.nextInt(5) < 3 ? 11 : PIECES.length)];
-            for (char c : piece.toCharArray()) {
-                due("type", x.type(c) ? 1 : 0, model.type(c) ? 1 : 0);
-                told.append(c);
-            }
+            type(piece);
         }
         if (random.nextInt(20) == 0) {
             char c = (char) random.nextInt(140);
@@ -65,6 +98,13 @@ public final class ModelTest {
         }
     }
 
+    private void type(String piece) {
+        for (char c : piece.toCharArray()) {
+            due("type", x.type(c) ? 1 : 0, model.type(c) ? 1 : 0);
+            told.append(c);
+        }
+    }
+
     private void wrongEdit() {
         int at = random.nextInt(model.text.length() + 6) - 3;
         int gone = random.nextInt(2) == 0 ? model.text.length() - at + 1 : -1 - random.nextInt(3);
@@ -75,6 +115,10 @@ public final class ModelTest {
         int length = model.text.length();
         int at = place(length);
         int gone = random.nextInt(3) == 0 ? 0 : Math.min(length - at, random.nextInt(random.nextInt(4) == 0 ? 60 : 6));
+        edit(at, gone);
+    }
+
+    private void edit(int at, int gone) {
         told.append("<edit(").append(at).append(", ").append(gone).append(")>");
         due("edit", Check.edit(x, at, gone), model.edit(at, gone));
     }
